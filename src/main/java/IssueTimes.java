@@ -110,8 +110,11 @@ public final class IssueTimes {
     if (!isInstruction(i) || n < 1 || n > count - i || n > MOST_INSTRUCTIONS - count) {
       return NONE;
     }
-    for (int k = 0; k < n; k++) {
-      appendCopy(i + k);
+    for (int k = i; k < i + n; k++) {
+      append(kinds[k], writes[k], firstReads[k], secondReads[k], foresights[k], goings[k]);
+      if (toldToFail[k]) {
+        failLast();
+      }
     }
     return count;
   }
@@ -232,13 +235,6 @@ public final class IssueTimes {
     count++;
     settle(i);
     return i;
-  }
-
-  private void appendCopy(int i) {
-    append(kinds[i], writes[i], firstReads[i], secondReads[i], foresights[i], goings[i]);
-    if (toldToFail[i]) {
-      failLast();
-    }
   }
 
   private void failLast() {
@@ -405,7 +401,6 @@ public final class IssueTimes {
     }
   }
 
-  // A divide that fails holds the divider too: the document leaves out none.
   private int whenDividerIsFree(int divide) {
     for (int i = divide - 1; i >= 0; i--) {
       if (kinds[i] == DIVIDE) {
