@@ -1,11 +1,17 @@
 /** Counts and prints the answers that are not the ones that are due. */
 final class Due {
   private int wrong = 0;
+  private String head = "";
+
+  /** What is printed ahead of every wrong answer from here on. */
+  void under(String newHead) {
+    head = newHead;
+  }
 
   void is(String call, int got, int want) {
     if (got != want) {
       wrong++;
-      System.out.println(call + " answered " + got + ", due is " + want);
+      System.out.println(head + call + " answered " + got + ", due is " + want);
     }
   }
 
