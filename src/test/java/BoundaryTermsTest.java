@@ -583,6 +583,10 @@ public final class BoundaryTermsTest {
     x.put(0, 0, 5, 0);
     x.put(0, 5, 0, 0);
     due.timeOfAll("the first one reads what the second one writes", x, 1, 3, 3);
+    x.clear();
+    x.put(0, 0, 0, 0);
+    x.put(0, 5, 5, 5);
+    due.timeOfAll("the second one reads what it writes itself", x, 1, 3, 3);
   }
 
   // Done.
